@@ -1,5 +1,3 @@
-import java.util.Arrays;
-
 /** A heap of plates that is turned over in parts; ../shared/DOC.md says what each call answers. */
 public final class TopTurned {
     private static final int NONE = -9;
@@ -26,7 +24,7 @@ public final class TopTurned {
     private static final int BURNT_CODE = 10;
     private static final int LAWS = 5;
     private static final int WAITERS = 5;
-    /** Far above the some hundred thousand steps that the dearest kitchen needs. */
+    /** Far above the some four thousand steps that the dearest search needs. */
     private static final int MOST_STEPS = 1000000;
 
     private final Told now;
@@ -333,7 +331,7 @@ public final class TopTurned {
     /** After a change of what is told: all that was reckoned from it is old. */
     private void settle() {
         space.shape(now.plates);
-        rules.rankSizes();
+        rules.settle();
         chart.forget();
     }
 
@@ -568,8 +566,9 @@ public final class TopTurned {
         int sides = 1;
         int states = 1;
         int turns;
-        private final int[] from = new int[MOST_TURNS];
-        private final int[] to = new int[MOST_TURNS];
+        /** Of each turn, by its number in their order, i and j. */
+        final int[] from = new int[MOST_TURNS];
+        final int[] to = new int[MOST_TURNS];
         private final int[] plateIn = new int[MOST_ORDERS * MOST_PLATES];
         private final int[] orderBehind = new int[MOST_ORDERS * MOST_TURNS];
         private final int[] sidesBehind = new int[MOST_SIDES * MOST_TURNS];
@@ -699,10 +698,6 @@ public final class TopTurned {
             return state >> plates;
         }
 
-        int sidesIn(int state) {
-            return state & sides - 1;
-        }
-
         int plateAt(int order, int place) {
             return plateIn[order * MOST_PLATES + place];
         }
@@ -726,8 +721,8 @@ public final class TopTurned {
         }
 
         int behind(int state, int t) {
-            int order = orderBehind[orderIn(state) * MOST_TURNS + t];
-            return order << plates | sidesBehind[sidesIn(state) * MOST_TURNS + t];
+            int order = orderBehind[(state >> plates) * MOST_TURNS + t];
+            return order << plates | sidesBehind[(state & sides - 1) * MOST_TURNS + t];
         }
 
         /** The number of a turn among all turns, -1 if there is no such turn. */
@@ -747,20 +742,17 @@ public final class TopTurned {
         int told(int t) {
             return 10 * from[t] + to[t];
         }
-
-        int fromOf(int t) {
-            return from[t];
-        }
-
-        int toOf(int t) {
-            return to[t];
-        }
     }
 
-    /** What may be, what it costs, what is in order and what does not fit, as things are told. */
+    /**
+     * What may be, what it costs, what is in order and what does not fit, as things are told.
+     * What hangs on the order alone is looked up once for each order, as searches ask it often.
+     */
     private static final class Rules {
         private final Told told;
         private final Space space;
+        private final boolean[] lawfulIn = new boolean[MOST_ORDERS * MOST_TURNS];
+        private final boolean[] sorted = new boolean[MOST_ORDERS];
         /** Of each plate how many unlike sizes are less than its own. */
         private final int[] rank = new int[MOST_PLATES];
         private int boardRank;
@@ -768,9 +760,21 @@ public final class TopTurned {
         Rules(Told told, Space space) {
             this.told = told;
             this.space = space;
+            sorted[0] = true;
         }
 
-        void rankSizes() {
+        /** To be called when something else is told, the space having its shape by then. */
+        void settle() {
+            rankSizes();
+            for (int order = 0; order < space.orders; order++) {
+                sorted[order] = isSorted(order);
+                for (int t = 0; t < space.turns; t++) {
+                    lawfulIn[order * MOST_TURNS + t] = allows(order, t);
+                }
+            }
+        }
+
+        private void rankSizes() {
             int sizesSeen = 0;
             for (int plate = 0; plate < told.plates; plate++) {
                 sizesSeen |= 1 << told.sizes[plate];
@@ -782,17 +786,25 @@ public final class TopTurned {
             boardRank = Integer.bitCount(sizesSeen);
         }
 
-        /** No law looks at sides; and a turn that may be may be again behind itself. */
-        boolean lawful(int order, int t) {
-            int i = space.fromOf(t);
-            int j = space.toOf(t);
+        private boolean isSorted(int order) {
+            for (int place = 1; place < space.plates; place++) {
+                if (sizeAt(order, place - 1) > sizeAt(order, place)) {
+                    return false;
+                }
+            }
+            return true;
+        }
+
+        private boolean allows(int order, int t) {
+            int i = space.from[t];
+            int j = space.to[t];
             switch (told.law) {
                 case 0:
                     return i == 0;
                 case 1:
                     return i == 0 && j <= told.limit;
                 case 2:
-                    return i == 0 && !isAmong(order, j, told.keptPlate);
+                    return i == 0 && !isAmongTop(order, j, told.keptPlate);
                 case 3:
                     return true;
                 case 4:
@@ -802,13 +814,23 @@ public final class TopTurned {
             }
         }
 
-        private boolean isAmong(int order, int top, int plate) {
-            for (int place = 0; place < top; place++) {
+        private boolean isAmongTop(int order, int many, int plate) {
+            for (int place = 0; place < many; place++) {
                 if (space.plateAt(order, place) == plate) {
                     return true;
                 }
             }
             return false;
+        }
+
+        /** No law looks at sides; and a turn that may be may be again behind itself. */
+        boolean lawful(int order, int t) {
+            return lawfulIn[order * MOST_TURNS + t];
+        }
+
+        boolean arranged(int state) {
+            boolean allClean = (state & space.sides - 1) == 0;
+            return sorted[state >> space.plates] && (allClean || !told.burntMatters);
         }
 
         int howManyLawful(int order) {
@@ -836,24 +858,11 @@ public final class TopTurned {
         }
 
         int costOf(int t) {
-            return told.turnCost + space.toOf(t) * told.plateCost;
+            return told.turnCost + space.to[t] * told.plateCost;
         }
 
         int sizeAt(int order, int place) {
             return told.sizes[space.plateAt(order, place)];
-        }
-
-        boolean arranged(int state) {
-            if (told.burntMatters && space.sidesIn(state) != 0) {
-                return false;
-            }
-            int order = space.orderIn(state);
-            for (int place = 1; place < space.plates; place++) {
-                if (sizeAt(order, place - 1) > sizeAt(order, place)) {
-                    return false;
-                }
-            }
-            return true;
         }
 
         int gapsOf(int state) {
@@ -1007,14 +1016,17 @@ public final class TopTurned {
                 held--;
                 int order = space.orderIn(state);
                 for (int t = 0; t < space.turns; t++) {
-                    if (rules.lawful(order, t) && isCheaperBy(state, t)) {
-                        int other = space.behind(state, t);
-                        price[other] = price[state] + rules.costOf(t);
-                        if (waiting[other] == 0) {
-                            waiting[other] = 1;
-                            queue[roundTheQueue(head + held)] = other;
-                            held++;
-                        }
+                    int other = space.behind(state, t);
+                    int sum = price[state] + rules.costOf(t);
+                    boolean known = price[other] >= 0 && price[other] <= sum;
+                    if (known || !rules.lawful(order, t)) {
+                        continue;
+                    }
+                    price[other] = sum;
+                    if (waiting[other] == 0) {
+                        waiting[other] = 1;
+                        queue[roundTheQueue(head + held)] = other;
+                        held++;
                     }
                 }
             }
@@ -1037,11 +1049,6 @@ public final class TopTurned {
 
         private static int roundTheQueue(int at) {
             return at < MOST_STATES ? at : at - MOST_STATES;
-        }
-
-        private boolean isCheaperBy(int state, int t) {
-            int known = price[space.behind(state, t)];
-            return known < 0 || price[state] + rules.costOf(t) < known;
         }
     }
 
@@ -1068,7 +1075,7 @@ public final class TopTurned {
         }
 
         int turnsBetween(int start, int end) {
-            Arrays.fill(first, 0, space.states, -1);
+            fillFirst(-1);
             first[start] = 0;
             second[start] = 1;
             queue[0] = start;
@@ -1076,9 +1083,15 @@ public final class TopTurned {
             return first[end];
         }
 
+        private void fillFirst(int value) {
+            for (int state = 0; state < space.states; state++) {
+                first[state] = value;
+            }
+        }
+
         /** As each turn leads back too, the states before are those behind: a bit for each step. */
         int howManyBehind(int start, int steps) {
-            Arrays.fill(first, 0, space.states, 0);
+            fillFirst(0);
             first[start] = 1;
             for (int step = 1; step <= steps; step++) {
                 for (int state = 0; state < space.states; state++) {
@@ -1370,7 +1383,9 @@ public final class TopTurned {
                 return false;
             }
             rowLength = length;
-            Arrays.fill(rowTurns, 0);
+            for (int k = 0; k < length; k++) {
+                rowTurns[k] = 0;
+            }
             for (int tried = 0; tried < MOST_STEPS; tried++) {
                 if (arrangesAll()) {
                     return true;

@@ -7,6 +7,7 @@ public final class ImageTest {
         allIsAsThen();
         anotherImage();
         platesThatCameLaterAreGone();
+        theRowIsToldToo();
         DUE.end();
     }
 
@@ -60,6 +61,16 @@ public final class ImageTest {
         x.turn(0, 1);
         x.on();
         DUE.holds("the heap", Due.heap(x).equals("11 10"));
+    }
+
+    private static void theRowIsToldToo() {
+        TopTurned x = Due.with("p3+;p1+;p2+;");
+        Due.rows(x, 3, 2);
+        x.image();
+        DUE.is("judge()", x.judge(), -9);
+        Due.rows(x, 9, 9, 9);
+        x.on();
+        DUE.is("the row as it was then: judge()", x.judge(), -9);
     }
 
     private static void platesThatCameLaterAreGone() {

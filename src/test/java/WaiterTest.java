@@ -74,6 +74,7 @@ public final class WaiterTest {
         DUE.is("of several the lowest: next(4)", Due.with("p3+;p3+;p1+;").next(4), 2);
         DUE.is("and so for ever: rule(4)", Due.with("p3+;p3+;p1+;").rule(4), -9);
         DUE.is("what lies right below stays: next(4)", Due.with("p2+;p1+;p3+;p4+;p5+;").next(4), 2);
+        DUE.is("alike ones below stay too: next(4)", Due.with("p2+;p1+;p3+;p3+;").next(4), 2);
         x.law(4);
         DUE.is("may or not: next(4)", x.next(4), 3);
         DUE.is("may or not: rule(4)", x.rule(4), 1);
