@@ -464,11 +464,12 @@ public final class TopTurned {
                 return -1000 - misfit;
             }
             int statements = 0;
-            for (int at = 0; at < told.letterCount; at++) {
+            int at = 0;
+            while (at < told.letterCount) {
                 if (!obey(at)) {
                     return -2000 - at;
                 }
-                at += lengthOf(letterAt(at)) - 1;
+                at += Math.max(1, lengthOf(letterAt(at)));
                 statements++;
             }
             return statements;

@@ -21,6 +21,13 @@ final class Due {
         }
     }
 
+    void same(String what, String got, String want) {
+        if (!got.equals(want)) {
+            wrong++;
+            System.out.println(about + ": " + what + " is " + got + ", due is " + want);
+        }
+    }
+
     void end() {
         if (wrong != 0) {
             System.out.println(about + ": " + wrong + " answers are not as due");
@@ -28,10 +35,14 @@ final class Due {
         }
     }
 
-    static int tell(TopTurned x, String text) {
+    static void letters(TopTurned x, String text) {
         for (int k = 0; k < text.length(); k++) {
             x.letter(text.charAt(k));
         }
+    }
+
+    static int tell(TopTurned x, String text) {
+        letters(x, text);
         return x.kitchen();
     }
 
