@@ -24,6 +24,7 @@ public final class TopTurned {
     private static final int BURNT_CODE = 10;
     private static final int LAWS = 5;
     private static final int WAITERS = 5;
+    private static final int ALL_BUT_THE_SIGN = 0x7FFFFFFF;
     /** Far above the some four thousand steps that the dearest search needs. */
     private static final int MOST_STEPS = 1000000;
 
@@ -1127,7 +1128,7 @@ public final class TopTurned {
                     return state;
                 }
                 z = z * 1664525 + 1013904223;
-                int t = rules.lawfulAt(order, (z & Integer.MAX_VALUE) / 256 % many);
+                int t = rules.lawfulAt(order, (z & ALL_BUT_THE_SIGN) / 256 % many);
                 if (t >= 0) {
                     state = space.behind(state, t);
                 }

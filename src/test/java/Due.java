@@ -61,6 +61,24 @@ final class Due {
         }
     }
 
+    /** Turns the heap, whatever the law, till it lies so: codes from the top on. Two calls and ten turns at most. */
+    static void arrange(TopTurned x, int... codes) {
+        int law = x.law(3);
+        for (int place = 0; place < codes.length; place++) {
+            int at = place;
+            while (x.place(at, 0) != codes[place] % 10) {
+                at++;
+            }
+            if (at > place) {
+                x.turn(place, at + 1);
+            }
+            if (x.place(place, 2) != codes[place] / 10) {
+                x.turn(place, place + 1);
+            }
+        }
+        x.law(law);
+    }
+
     /** The heap as it lies: codes from the top on, joined by blanks. */
     static String heap(TopTurned x) {
         StringBuilder text = new StringBuilder();

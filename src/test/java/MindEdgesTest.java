@@ -22,11 +22,13 @@ public final class MindEdgesTest {
         pathOfAlikeOnes();
         judge();
         judgeEight();
+        numbersThatTellTurns();
         blind();
         blindBySides();
         blindEight();
         fewest();
         fewestIsTheFirst();
+        blindOfFive();
         match();
         shuffledByOne();
         shuffledOnAndOn();
@@ -54,6 +56,10 @@ public final class MindEdgesTest {
         DUE.is("for nothing: cheapest()", Due.with(FARTHEST + "c00;").cheapest(), 0);
         DUE.is("by turns: cheapest()", Due.with(FARTHEST + "c10;").cheapest(), 10);
         DUE.is("by turns, dear: cheapest()", Due.with(FARTHEST + "c90;").cheapest(), 90);
+        String dear = "p2+;p1+;p3-;p4-;p5-;b1;";
+        DUE.is("the dearest there is: cheapest()", Due.with(dear + "c99;").cheapest(), 351);
+        DUE.is("by plates alone: cheapest()", Due.with(dear + "c09;").cheapest(), 243);
+        DUE.is("between, the dearest there is: cheapest()", Due.with(dear + "c99;l3;").cheapest(), 198);
         DUE.is("the cheapest row is not the shortest: cheapest()", Due.with("p2+;p4+;p3-;b1;c01;").cheapest(), 9);
         DUE.is("never, for nothing: cheapest()", Due.with("p2+;p1+;l1;m1;c00;").cheapest(), -9);
         DUE.is("never, none may be: cheapest()", Due.with("p2+;p1+;l2;k0;c99;").cheapest(), -9);
@@ -253,6 +259,25 @@ public final class MindEdgesTest {
         DUE.is("the ninth did not come", x.judge(), 8);
     }
 
+    /** "told as 10 times i and j": which of 0 .. 99 tell a turn, and which turn. */
+    private static void numbersThatTellTurns() {
+        for (int plates = 0; plates <= 5; plates++) {
+            String some = FIVE.substring(0, 4 * plates) + "l3;b1;";
+            for (int v = 0; v <= 99; v++) {
+                boolean is = v / 10 < v % 10 && v % 10 <= plates;
+                TopTurned x = Due.with(some);
+                x.row(v);
+                DUE.is(some + " row " + v + " blind()", x.blind(), is ? 0 : -3);
+                DUE.is(some + " row " + v + " judge()", judged(Due.with(some), v), is ? 1 : 0);
+                if (is) {
+                    x = Due.with(some);
+                    x.turn(v / 10, v % 10);
+                    DUE.is(some + " turned, and back by " + v, judged(x, v), -9);
+                }
+            }
+        }
+    }
+
     private static int blinded(TopTurned x, int... turns) {
         Due.rows(x, turns);
         int answer = x.blind();
@@ -335,6 +360,24 @@ public final class MindEdgesTest {
         fewestOf("p1-;p2-;p3-;s01;s12;b1;l3;", 1, 12, 23);
         fewestOf("p1+;p2+;p3+;s01;s20;l3;", 2, 13);
         fewestOf("p1+;p2+;p3+;s10;s02;l4;", 2);
+    }
+
+    private static void blindOfFive() {
+        String chain = "s43;s32;s21;s10;";
+        DUE.is("five, upside down and clean", blinded(Due.with(FIVE + chain), 5), 1);
+        DUE.is("five, upside down and clean, burnt ones matter", blinded(Due.with(FIVE + chain + "b1;"), 5), 0);
+        TopTurned x = Due.with("p1-;p2-;p3-;p4-;p5-;b1;" + chain);
+        DUE.is("five, upside down and burnt", blinded(x, 5), 1);
+        DUE.is("five, upside down and burnt: fewest(-1)", x.fewest(-1), 1);
+        DUE.is("five, upside down and burnt: fewest(0)", x.fewest(0), 5);
+        x.turn(0, 5);
+        DUE.is("five, upside down and clean: fewest(-1)", x.fewest(-1), -9);
+        fewestOf("p1-;p2-;p3-;p4-;p5+;b1;l3;" + chain, 1, 5);
+        fewestOf("p1+;p2-;p3-;p4-;p5-;b1;l3;" + chain, 5, 1);
+        DUE.is("five, no sights: fewest(-1)", Due.with(FIVE + "l3;").fewest(-1), -9);
+        fewestOf("p4-;p4+;p4-;p4+;p4-;s01;s12;s23;s34;s02;s13;l3;b1;", 1, 23, 45);
+        fewestOf("p4-;p4-;p4-;p4-;p4-;l3;b1;", 5);
+        fewestOf("p4+;p4-;p4+;p4-;p4+;");
     }
 
     /** "MATCH: two turn by turns (a TURN that MAY be; there is one or who must has lost); who makes it IN ORDER has won (..)". */

@@ -223,7 +223,7 @@ public final class RefusalEdgesTest {
     }
 
     private static void path() {
-        int[][] rows = {{}, {0}, {0, 1}, {0, 1, 2, 2}, {0, 1, 1}, {0, 1, 11}, {0, 1, 3}, {0, 1, 13}, {0, 1, 22}, {20, 1, 2},
+        int[][] rows = {{}, {0}, {0, 1}, {0, 1, 2, 2}, {0, 1, 1}, {0, 1, 0}, {10, 1, 0}, {0, 1, 11}, {0, 1, 3}, {0, 1, 13}, {0, 1, 22}, {20, 1, 2},
             {0, 1, 99}, {10, 10, 10}, {0, 1, 2, 0, 1, 2, 0, 1}};
         for (int[] numbers : rows) {
             withRow("p3+;p1-;p2+;", numbers).refuses(Arrays.toString(numbers) + " path()", TopTurned::path, -3);
